@@ -1,6 +1,8 @@
 /** Promise 8: a caller is open no more, its half is gone. */
 public final class Promise08CloseTest {
     private static final Check CHECK = new Check("Promise08CloseTest");
+    /** A size of each class, so that every caller of nineCallers() but the last has a class of its own. */
+    private static final int[] SIZES = {64, 256, 536, 1024, 1220, 1440, 1460, 4096};
 
     public static void main(String[] args) {
         eachAnswer();
@@ -40,16 +42,16 @@ public final class Promise08CloseTest {
             CHECK.told("without " + gone, x, gone / 3 == 2 ? 2 : 3, gone / 3 == 1 ? 2 : 3, gone / 3 == 2 ? 6 : 5);
             for (int i = 3; i < 6; i++) {
                 if (i != gone) {
-                    CHECK.due("take without " + gone, x.take(), i + 65536 * 6);
+                    CHECK.due("take without " + gone, x.take(), i + 65536 * i);
                 }
             }
             CHECK.due("no more without " + gone, x.take(), -1);
             x.rooms(4, 16);
             for (int i = 6; i < 9; i++) {
                 if (i != gone) {
-                    int a = (int) (x.cookie(i, i, i, 1, 0) ^ 0xFF000000L) + 1;
+                    int a = (int) (x.cookie(i, i, i, i % 8, 0) ^ 0xFF000000L) + 1;
                     CHECK.due("half " + i + " without " + gone, x.ack(i, i, i + 1, a), 2);
-                    CHECK.due("class of " + i, x.take(), i + 65536);
+                    CHECK.due("class of " + i, x.take(), i + 65536 * (i % 8));
                 }
             }
         }
@@ -60,13 +62,13 @@ public final class Promise08CloseTest {
         CookieListener x = new CookieListener();
         x.rooms(4, 6);
         for (int i = 0; i < 6; i++) {
-            Steps.open(x, i, i, i, 1460);
+            Steps.open(x, i, i, i, SIZES[i]);
         }
         for (int i = 0; i < 3; i++) {
             x.take();
         }
         for (int i = 6; i < 9; i++) {
-            x.syn(i, i, i, 256);
+            x.syn(i, i, i, SIZES[i % 8]);
         }
         return x;
     }
