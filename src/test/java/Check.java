@@ -4,12 +4,30 @@ final class Check {
         void run();
     }
 
+    private static final long MOST_MILLISECONDS = 300_000;
+
     private final String test;
     private int checks = 0;
     private int wrong = 0;
 
     Check(String test) {
         this.test = test;
+        watch();
+    }
+
+    /** A call that never ends must fail the test, not hold it up. */
+    private void watch() {
+        Thread watcher = new Thread(() -> {
+            try {
+                Thread.sleep(MOST_MILLISECONDS);
+            } catch (InterruptedException e) {
+                return;
+            }
+            System.out.println(test + ": a call does not end");
+            Runtime.getRuntime().halt(1);
+        });
+        watcher.setDaemon(true);
+        watcher.start();
     }
 
     void due(String what, long got, long want) {

@@ -1,7 +1,8 @@
-import java.lang.reflect.Constructor;
 import java.lang.reflect.Field;
-import java.lang.reflect.Method;
+import java.lang.reflect.Member;
 import java.lang.reflect.Modifier;
+import java.util.ArrayList;
+import java.util.List;
 import java.util.TreeSet;
 
 /** The public face: what the document writes, and no other member that is not private. */
@@ -9,44 +10,65 @@ public final class FaceTest {
     private static final String[] FACE = {
         "public static final int CookieListener.NONE",
         "public CookieListener()",
-        "public void CookieListener.rooms(int,int) throws java.lang.IllegalArgumentException",
+        "public void CookieListener.rooms(int,int)",
         "public void CookieListener.key(long,long)",
-        "public int CookieListener.pass(int) throws java.lang.IllegalArgumentException",
-        "public long CookieListener.syn(int,int,int,int) throws java.lang.IllegalArgumentException",
-        "public int CookieListener.ack(int,int,int,int) throws java.lang.IllegalArgumentException",
+        "public int CookieListener.pass(int)",
+        "public long CookieListener.syn(int,int,int,int)",
+        "public int CookieListener.ack(int,int,int,int)",
         "public int CookieListener.take()",
-        "public int CookieListener.close(int,int) throws java.lang.IllegalArgumentException",
-        "public int CookieListener.state(int,int) throws java.lang.IllegalArgumentException",
-        "public long CookieListener.cookie(int,int,int,int,int) throws java.lang.IllegalArgumentException",
+        "public int CookieListener.close(int,int)",
+        "public int CookieListener.state(int,int)",
+        "public long CookieListener.cookie(int,int,int,int,int)",
         "public long CookieListener.hash(long,long)",
-        "public int CookieListener.told(int) throws java.lang.IllegalArgumentException",
+        "public int CookieListener.told(int)",
     };
 
+    private static final Check CHECK = new Check("FaceTest");
+
     public static void main(String[] args) {
-        Check check = new Check("FaceTest");
+        membersAreThoseOfTheDocument();
+        theClassIsPublicAndFinal();
+        classesInsideAreNotPublic();
+        noneIsAConstant();
+        CHECK.end();
+    }
+
+    private static void membersAreThoseOfTheDocument() {
+        List<Member> members = new ArrayList<>(List.of(CookieListener.class.getDeclaredFields()));
+        members.addAll(List.of(CookieListener.class.getDeclaredConstructors()));
+        members.addAll(List.of(CookieListener.class.getDeclaredMethods()));
         TreeSet<String> seen = new TreeSet<>();
-        for (Field f : CookieListener.class.getDeclaredFields()) {
-            if (!Modifier.isPrivate(f.getModifiers())) {
-                seen.add(f.toString());
-            }
-        }
-        for (Constructor<?> c : CookieListener.class.getDeclaredConstructors()) {
-            if (!Modifier.isPrivate(c.getModifiers())) {
-                seen.add(c.toString());
-            }
-        }
-        for (Method m : CookieListener.class.getDeclaredMethods()) {
-            if (!Modifier.isPrivate(m.getModifiers())) {
-                seen.add(m.toString());
+        for (Member member : members) {
+            if (!Modifier.isPrivate(member.getModifiers()) && !member.isSynthetic()) {
+                // What is thrown is unchecked, so the throws clause binds no caller.
+                seen.add(member.toString().replaceAll(" throws .*", ""));
             }
         }
         for (String member : FACE) {
-            check.yes("has " + member, seen.remove(member));
+            CHECK.yes("has " + member, seen.remove(member));
         }
-        check.yes("has nothing beyond: " + seen, seen.isEmpty());
+        CHECK.yes("has nothing beyond: " + seen, seen.isEmpty());
+    }
+
+    private static void theClassIsPublicAndFinal() {
         int modifiers = CookieListener.class.getModifiers();
-        check.yes("public and final", Modifier.isPublic(modifiers) && Modifier.isFinal(modifiers));
-        check.due("NONE", CookieListener.NONE, -1);
-        check.end();
+        CHECK.yes("public and final", Modifier.isPublic(modifiers) && Modifier.isFinal(modifiers));
+    }
+
+    private static void classesInsideAreNotPublic() {
+        for (Class<?> inside : CookieListener.class.getDeclaredClasses()) {
+            int modifiers = inside.getModifiers();
+            CHECK.yes(inside + " is not public", !Modifier.isPublic(modifiers) && !Modifier.isProtected(modifiers));
+        }
+    }
+
+    /** Read at run time, since the compiler writes a constant's value into the test. */
+    private static void noneIsAConstant() {
+        try {
+            Field none = CookieListener.class.getField("NONE");
+            CHECK.due("NONE", none.getInt(null), -1);
+        } catch (ReflectiveOperationException e) {
+            CHECK.yes("NONE can be read: " + e, false);
+        }
     }
 }
