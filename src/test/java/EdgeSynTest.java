@@ -9,6 +9,7 @@ public final class EdgeSynTest {
         ofOneThatIsOpenNoMore();
         withThatNumber();
         withThatNumberThoughAllElseChanged();
+        withThatNumberTheCookiesTimeStays();
         withAnotherNumber();
         withAnotherNumberByOne();
         withAnotherNumberWhenFull();
@@ -87,11 +88,24 @@ public final class EdgeSynTest {
         CHECK.due("under another key", x.syn(1, 1, 5, 1460), half);
         CHECK.due("with another size", x.syn(1, 1, 5, 64), half);
         x.rooms(0, 2);
-        CHECK.due("without room for halves", x.syn(1, 1, 5, 1460), half);
+        CHECK.due("without room for halves", x.syn(1, 1, 5, 64), half);
         CHECK.told("no cookie", x, 1, 0, 0, 0);
         CHECK.due("no cookies' time", x.ack(2, 2, 2, 2), 8);
         CHECK.due("it opens", Steps.ack(x, 1, 1, 5, half), 2);
         CHECK.due("with the class that it was asked with", x.take(), 1 + 65536 * 6);
+    }
+
+    private static void withThatNumberTheCookiesTimeStays() {
+        CookieListener x = new CookieListener();
+        x.rooms(1, 2);
+        x.syn(1, 1, 5, 64);
+        Steps.giveACookie(x);
+        x.pass(30);
+        x.syn(1, 1, 5, 64);
+        x.pass(98);
+        CHECK.due("128 after the cookie", x.ack(5, 5, 5, 5), 7);
+        x.pass(1);
+        CHECK.due("129 after the cookie", x.ack(5, 5, 5, 5), 8);
     }
 
     /** "with another number: that half goes first". */

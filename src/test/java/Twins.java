@@ -101,6 +101,7 @@ final class Twins {
         for (int i = 0; i < 31; i++) {
             x.syn(3000 + i, 1, 1, 64);
         }
+        x.pass(1);
         return x;
     }
 
@@ -115,10 +116,11 @@ final class Twins {
         x.syn(2, 0, 1, 1460);
         x.rooms(2, 1);
         Steps.giveACookie(x);
+        x.pass(1);
         return x;
     }
 
-    /** What is told, who is there, the key, the numbers of halves, and the queue in its order. */
+    /** What is told, who is there, the key, the queue in its order, and the numbers and classes of halves. */
     private static List<Long> seeFigures(CookieListener x) {
         List<Long> seen = new ArrayList<>();
         for (int what = 0; what < 8; what++) {
@@ -135,8 +137,13 @@ final class Twins {
             seen.add((long) x.take());
         }
         for (int address = 1; address <= 6; address++) {
-            seen.add(x.syn(address, 0, 1, 64));
-            seen.add(x.syn(address, 65535, 1, 64));
+            for (int port : new int[] {0, 65535}) {
+                x.close(1000 + address, port);
+                long answer = x.syn(address, port, 1, 64);
+                seen.add(answer);
+                seen.add((long) Steps.ack(x, address, port, 1, answer));
+                seen.add((long) x.take());
+            }
         }
         return seen;
     }
