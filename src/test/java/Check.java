@@ -4,7 +4,7 @@ final class Check {
         void run();
     }
 
-    private static final long MOST_MILLISECONDS = 300_000;
+    private static final long MOST_MILLISECONDS = 60_000;
 
     private final String test;
     private int checks = 0;
