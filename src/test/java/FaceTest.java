@@ -1,5 +1,6 @@
 import java.lang.reflect.Field;
 import java.lang.reflect.Member;
+import java.lang.reflect.Method;
 import java.lang.reflect.Modifier;
 import java.util.ArrayList;
 import java.util.List;
@@ -30,6 +31,8 @@ public final class FaceTest {
         theClassIsPublicAndFinal();
         classesInsideAreNotPublic();
         noneIsAConstant();
+        noPrivateMethodHasAPublicName();
+        staticFieldsAreFinal();
         CHECK.end();
     }
 
@@ -69,6 +72,35 @@ public final class FaceTest {
             CHECK.due("NONE", none.getInt(null), -1);
         } catch (ReflectiveOperationException e) {
             CHECK.yes("NONE can be read: " + e, false);
+        }
+    }
+
+    /** LANGUAGE.md, rule 1. */
+    private static void noPrivateMethodHasAPublicName() {
+        TreeSet<String> names = new TreeSet<>();
+        for (Method method : CookieListener.class.getMethods()) {
+            if (method.getDeclaringClass() == CookieListener.class) {
+                names.add(method.getName());
+            }
+        }
+        for (Method method : CookieListener.class.getDeclaredMethods()) {
+            if (Modifier.isPrivate(method.getModifiers())) {
+                CHECK.yes("no private " + method.getName(), !names.contains(method.getName()));
+            }
+        }
+    }
+
+    /** LANGUAGE.md, rule 5: nothing is held outside of objects. */
+    private static void staticFieldsAreFinal() {
+        List<Class<?>> classes = new ArrayList<>(List.of(CookieListener.class.getDeclaredClasses()));
+        classes.add(CookieListener.class);
+        for (Class<?> one : classes) {
+            for (Field field : one.getDeclaredFields()) {
+                int modifiers = field.getModifiers();
+                if (Modifier.isStatic(modifiers) && !field.isSynthetic()) {
+                    CHECK.yes("final " + field, Modifier.isFinal(modifiers));
+                }
+            }
         }
     }
 }
